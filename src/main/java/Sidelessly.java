@@ -751,7 +751,8 @@ public final class Sidelessly {
         }
 
         private void appendAtoms(int formula, int part) {
-            for (int place = 0; place < sizes.at(part); place++) {
+            int many = sizes.at(part);
+            for (int place = 0; place < many; place++) {
                 appendAtom(formula, atomAt(part, place));
             }
         }
@@ -903,8 +904,8 @@ public final class Sidelessly {
             conclusionCounts.put(made, laidCounts.at(made));
             copyCuts(derivation);
             copyCuts(second);
-            copyFormula(derivation, one);
-            copyFormula(second, other);
+            copyRange(derivation, one, one + 1, NONE, NONE);
+            copyRange(second, other, other + 1, NONE, NONE);
             useBoth(derivation, second);
             count++;
             return made;
@@ -927,15 +928,11 @@ public final class Sidelessly {
             leafCounts.put(count, many + 1);
         }
 
-        private void copyFormula(int from, int index) {
-            appendFormula(formulaAt(from, index));
-            copyEnds(from, index);
-        }
-
         private void copyRange(int from, int start, int stop, int skipped, int skippedToo) {
             for (int index = start; index < stop && index < MOST_LEAVES; index++) {
                 if (index != skipped && index != skippedToo) {
-                    copyFormula(from, index);
+                    appendFormula(formulaAt(from, index));
+                    copyEnds(from, index);
                 }
             }
         }
@@ -945,23 +942,25 @@ public final class Sidelessly {
         }
 
         private void copyEnds(int from, int index) {
+            int base = from * MOST_LEAVES;
             int start = 0;
             for (int before = 0; before < index; before++) {
-                start += formulas.sizes.at(formulaAt(from, before));
+                start += formulas.sizes.at(laid.at(base + before));
             }
-            int stop = start + formulas.sizes.at(formulaAt(from, index));
+            int stop = start + formulas.sizes.at(laid.at(base + index));
             for (int leaf = start; leaf < stop && leaf < MOST_LEAVES; leaf++) {
-                appendEnd(ends.at(from * MOST_LEAVES + leaf));
+                appendEnd(ends.at(base + leaf));
             }
         }
 
         void layOn(Bench bench, int derivation) {
+            int many = laidCounts.at(derivation);
             bench.empty();
-            for (int index = 0; index < laidCounts.at(derivation); index++) {
+            for (int index = 0; index < many; index++) {
                 bench.lay(formulaAt(derivation, index));
             }
             layLinks(bench, derivation);
-            for (int root = conclusionCounts.at(derivation); root + 1 < laidCounts.at(derivation); root += 2) {
+            for (int root = conclusionCounts.at(derivation); root + 1 < many; root += 2) {
                 bench.addCut(root, root + 1);
             }
         }
@@ -1055,7 +1054,7 @@ public final class Sidelessly {
         }
 
         boolean isOfConclusion(int leaf) {
-            return hasLeaf(leaf) && isConclusion(leafRoots.at(leaf));
+            return hasLeaf(leaf) && rootCuts.at(leafRoots.at(leaf)) == NONE;
         }
 
         int countRoots() {
@@ -1310,11 +1309,12 @@ public final class Sidelessly {
 
         private void addTree(int formula, int start) {
             int top = nodeCount;
-            nodeCount += 2 * formulas.sizes.at(formula) - 1;
+            int stop = top + 2 * formulas.sizes.at(formula) - 1;
             addNode(top, formula, start, NONE);
-            for (int node = top; node < nodeCount; node++) {
+            for (int node = top; node < stop; node++) {
                 addParts(node);
             }
+            nodeCount = stop;
         }
 
         private void addNode(int node, int formula, int start, int whole) {
@@ -1867,13 +1867,15 @@ public final class Sidelessly {
         private final Row parts = new Row(MOST_FORMULAS);
         private final Row values = new Row(MOST_FORMULAS);
         private final Row letters = new Row(LETTERS);
-        private int size = 1;
+        private final Row duals = new Row(1 << MOST_NUMBERS);
+        private int size;
         private int pole;
         private int partCount;
         private int letterCount;
 
         Monoid(Formulas formulas) {
             this.formulas = formulas;
+            change(1, 0);
         }
 
         int size() {
@@ -1888,11 +1890,13 @@ public final class Sidelessly {
             size = newSize;
             pole = newPole;
             sets.fill(0);
+            for (int set = 0; set < 1 << size; set++) {
+                duals.put(set, findDual(set));
+            }
         }
 
         void copyFrom(Monoid other) {
-            size = other.size;
-            pole = other.pole;
+            change(other.size, other.pole);
             sets.copyFrom(other.sets);
         }
 
@@ -1918,13 +1922,13 @@ public final class Sidelessly {
             return false;
         }
 
-        /** All numbers of a set, each with one more number added to it. */
+        /** All numbers of a set, each with one and the same number added to it. */
         private int shifted(int set, int added) {
             int all = (1 << size) - 1;
             return (set << added | set >> size - added) & all;
         }
 
-        private int dualOf(int set) {
+        private int findDual(int set) {
             int found = (1 << size) - 1;
             for (int number = 0; number < size; number++) {
                 if ((set >> number & 1) == 1) {
@@ -1954,17 +1958,18 @@ public final class Sidelessly {
         }
 
         private int valueOfAtom(int atom) {
-            int plain = dualOf(dualOf(sets.at(formulas.letterOf(atom))));
-            return formulas.isTurned(atom) ? dualOf(plain) : plain;
+            int dual = duals.at(sets.at(formulas.letterOf(atom)));
+            int plain = duals.at(dual);
+            return formulas.isTurned(atom) ? duals.at(plain) : plain;
         }
 
         private int valueOfJoin(int formula) {
             int first = values.at(formulas.firsts.at(formula));
             int second = values.at(formulas.seconds.at(formula));
             if (formulas.kinds.at(formula) == PAR) {
-                return dualOf(sumOf(dualOf(first), dualOf(second)));
+                return duals.at(sumOf(duals.at(first), duals.at(second)));
             }
-            return dualOf(dualOf(sumOf(first, second)));
+            return duals.at(duals.at(sumOf(first, second)));
         }
 
         /** Becomes the first monoid in which a formula that has been gathered does not hold, if there is one. */
