@@ -8,6 +8,23 @@ final class Check {
         Object make();
     }
 
+    /** Makes a new house, the same at each time. */
+    interface Recipe {
+        Sidelessly make();
+    }
+
+    /** A call of a house that may throw. */
+    interface HouseCall {
+        Object make(Sidelessly house);
+    }
+
+    static final Class<IndexOutOfBoundsException> INDEX = IndexOutOfBoundsException.class;
+    static final Class<IllegalArgumentException> ARGUMENT = IllegalArgumentException.class;
+    static final Class<IllegalStateException> STATE = IllegalStateException.class;
+    static final Class<UnsupportedOperationException> UNSUPPORTED = UnsupportedOperationException.class;
+    static final Class<java.util.NoSuchElementException> NO_SUCH = java.util.NoSuchElementException.class;
+    static final Class<ArithmeticException> ARITHMETIC = ArithmeticException.class;
+
     private final String test;
     private final List<String> wrong = new ArrayList<>();
     private int looks;
@@ -23,11 +40,18 @@ final class Check {
         }
     }
 
-    /** The call throws just this exception, and what can be seen of the house is as it was. */
-    void refuses(String what, Class<? extends RuntimeException> due, Sidelessly house, Call call) {
-        String before = Sight.of(house);
-        same(what, "throws " + due.getSimpleName(), answerOf(call));
-        same(what + " leaves all as it was", before, Sight.of(house));
+    /** The call throws just this exception, and leaves a house as it is without the call. */
+    void refuses(String what, Class<? extends RuntimeException> due, Recipe recipe, HouseCall call) {
+        Sidelessly asked = recipe.make();
+        same(what, "throws " + due.getSimpleName(), answerOf(() -> call.make(asked)));
+        same(what + " leaves all as it was", Sight.of(recipe.make()), Sight.of(asked));
+    }
+
+    /** The call only tells, and leaves a house as it is without the call. */
+    void tells(String what, Object due, Recipe recipe, HouseCall call) {
+        Sidelessly asked = recipe.make();
+        same(what, due, answerOf(() -> call.make(asked)));
+        same(what + " leaves all as it was", Sight.of(recipe.make()), Sight.of(asked));
     }
 
     static Object answerOf(Call call) {
@@ -39,8 +63,8 @@ final class Check {
     }
 
     void close() {
-        for (String line : wrong) {
-            System.out.println(test + ": " + line);
+        for (int index = 0; index < wrong.size() && index < 20; index++) {
+            System.out.println(test + ": " + wrong.get(index));
         }
         System.out.println(test + ": " + (looks - wrong.size()) + " of " + looks + " looks are as due");
         if (looks == 0 || !wrong.isEmpty()) {

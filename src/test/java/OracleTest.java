@@ -76,6 +76,11 @@ public final class OracleTest {
             } else if (sort == 2) {
                 layBalanced();
                 bench();
+                if (isOneOf(3)) {
+                    meanings();
+                    linkAll();
+                    both("isClique()", () -> house.isClique(), () -> oracle.isClique());
+                }
             } else if (sort == 3) {
                 derive();
                 tellFormula();

@@ -1,54 +1,107 @@
-/** All that can be seen of a house by calls that change nothing. */
+/**
+ * All that can be seen of a house, in some 400 calls at most. The house is used up by that: what only changes tell,
+ * as how many points a letter had, is asked last.
+ */
 final class Sight {
-    private Sight() {
+    private final StringBuilder seen = new StringBuilder();
+    private final Sidelessly house;
+
+    private Sight(Sidelessly house) {
+        this.house = house;
     }
 
     static String of(Sidelessly house) {
-        StringBuilder sight = new StringBuilder();
-        for (int formula = 0; add(sight, house, formula); formula++) {
-            int seen = formula;
-            sight.append(Check.answerOf(() -> house.part(seen, false))).append(' ');
-            sight.append(Check.answerOf(() -> house.part(seen, true))).append(' ');
-            sight.append(house.value(formula)).append(';');
-        }
-        seeDerivations(sight, house);
-        seeBench(sight, house);
-        return sight.toString();
+        Sight sight = new Sight(house);
+        sight.seeFormulas();
+        sight.seeBench();
+        sight.seeSpaces();
+        sight.seeMonoid();
+        sight.seeDerivations();
+        return sight.seen.toString();
     }
 
-    private static boolean add(StringBuilder sight, Sidelessly house, int formula) {
-        Object kind = Check.answerOf(() -> house.kind(formula));
-        sight.append(kind).append(' ');
-        return kind instanceof Character;
+    private Object see(Check.Call call) {
+        Object answer = Check.answerOf(call);
+        seen.append(answer).append(' ');
+        return answer;
     }
 
-    private static void seeDerivations(StringBuilder sight, Sidelessly house) {
-        for (int derivation = 0; derivation < 25; derivation++) {
-            int seen = derivation;
-            Object many = Check.answerOf(() -> house.conclusions(seen));
-            sight.append("\nderivation ").append(many).append(':');
-            if (many instanceof Integer) {
-                for (int index = 0; index < (Integer) many; index++) {
-                    sight.append(' ').append(house.conclusion(derivation, index));
-                }
+    private void seeFormulas() {
+        for (int formula = 0; formula < 61; formula++) {
+            int one = formula;
+            Object kind = see(() -> house.kind(one));
+            if (!(kind instanceof Character)) {
+                break;
+            }
+            if ((Character) kind == '*' || (Character) kind == '|') {
+                see(() -> house.part(one, false));
+                see(() -> house.part(one, true));
             }
         }
+        see(house::meanAtoms);
     }
 
-    private static void seeBench(StringBuilder sight, Sidelessly house) {
-        sight.append("\nroots ").append(house.roots()).append(':');
-        for (int root = 0; root < 50; root++) {
-            int seen = root;
-            sight.append(' ').append(Check.answerOf(() -> house.rootAt(seen)));
+    private void seeBench() {
+        seen.append("\nbench ");
+        Object many = see(house::roots);
+        int found = 0;
+        for (int root = 0; root < 48 && found < (Integer) many; root++) {
+            int one = root;
+            found += see(() -> house.rootAt(one)) instanceof Integer ? 1 : 0;
         }
-        sight.append("\ncuts ").append(house.cuts()).append(':');
-        for (int leaf = 0; leaf < 26; leaf++) {
-            int seen = leaf;
-            sight.append(' ').append(Check.answerOf(() -> house.linked(seen)));
-            sight.append('/').append(Check.answerOf(() -> house.walk(seen)));
+        for (int leaf = 0; leaf < 24; leaf++) {
+            int one = leaf;
+            see(() -> house.linked(one));
+            see(() -> house.walk(one));
         }
-        sight.append("\nmeaning ").append(Check.answerOf(house::meaning));
-        sight.append(' ').append(Check.answerOf(house::isClique));
-        sight.append("\nsum ").append(house.checksum());
+        see(house::cuts);
+        see(house::meaning);
+        see(house::isClique);
+        see(house::checksum);
+    }
+
+    private void seeSpaces() {
+        seen.append("\nspaces ");
+        for (char letter = 'a'; letter <= 'e'; letter++) {
+            char one = letter;
+            see(() -> house.near(one, 0, 1, false));
+            see(() -> house.near(one, 0, 2, false));
+            see(() -> house.near(one, 1, 2, false));
+            see(() -> house.points(one, 2));
+        }
+    }
+
+    private void seeMonoid() {
+        seen.append("\nmonoid ");
+        for (int formula = 0; formula < 20; formula++) {
+            int one = formula;
+            if (!(see(() -> house.value(one)) instanceof Integer)) {
+                break;
+            }
+        }
+        for (char letter = 'a'; letter <= 'e'; letter++) {
+            char one = letter;
+            see(() -> house.set(one, 0));
+        }
+        see(() -> house.monoid(1, 0));
+    }
+
+    private void seeDerivations() {
+        for (int derivation = 0; derivation < 25; derivation++) {
+            seen.append("\nderivation ");
+            int one = derivation;
+            Object many = see(() -> house.conclusions(one));
+            if (!(many instanceof Integer)) {
+                break;
+            }
+            for (int index = 0; index < (Integer) many; index++) {
+                int seenIndex = index;
+                see(() -> house.conclusion(one, seenIndex));
+            }
+        }
+        for (int derivation = 0; derivation < 24; derivation++) {
+            int one = derivation;
+            see(() -> house.joinPar(one, 0, 1));
+        }
     }
 }

@@ -1,0 +1,158 @@
+import java.io.IOException;
+import java.lang.reflect.Constructor;
+import java.lang.reflect.Field;
+import java.lang.reflect.Method;
+import java.lang.reflect.Modifier;
+import java.nio.charset.StandardCharsets;
+import java.nio.file.Files;
+import java.nio.file.Path;
+import java.util.ArrayList;
+import java.util.List;
+import java.util.TreeSet;
+import java.util.regex.Matcher;
+import java.util.regex.Pattern;
+
+/** The public face of the class, and rules of LANGUAGE.md that can be looked for in its text. */
+public final class FaceTest {
+    private static final String[] FACE = {
+        "int atom(char,boolean) Argument State",
+        "int times(int,int) Index Argument State",
+        "int par(int,int) Index Argument State",
+        "int dual(int) Index State",
+        "char kind(int) Index",
+        "int part(int,boolean) Index Element",
+        "int axiom(int) Index Operation State",
+        "int joinPar(int,int,int) Index Argument Element State",
+        "int joinTimes(int,int,int,int) Index Argument Element State",
+        "int joinCut(int,int,int,int) Index Argument Element Operation State",
+        "int conclusions(int) Index",
+        "int conclusion(int,int) Index Element",
+        "int take(int) Index Operation",
+        "int place(int) Index State",
+        "int link(int,int) Index Operation",
+        "int unlink(int) Index Element",
+        "int cut(int,int) Index Operation",
+        "int clear()",
+        "int roots()",
+        "int rootAt(int) Index",
+        "int linked(int) Index Element",
+        "boolean byChoices() Operation",
+        "int badChoice() Operation Element",
+        "boolean byContraction()",
+        "boolean byTrips() Operation",
+        "int splits() Operation",
+        "int trees() Operation",
+        "int cuts()",
+        "char step(int) Index Operation",
+        "int normal() Operation",
+        "int walk(int) Index Operation",
+        "int passes(int) Index Operation",
+        "int points(char,int) Argument",
+        "boolean near(char,int,int,boolean) Argument",
+        "int meaning() Operation",
+        "boolean isClique() Operation",
+        "int monoid(int,int) Argument",
+        "int set(char,int) Argument",
+        "int value(int) Index",
+        "int counter(int) Index Operation Element",
+        "int proofs() Operation",
+        "int proof(int) Operation Element",
+        "float linkShare() Arithmetic",
+        "double meanAtoms() Arithmetic",
+        "long checksum()",
+        "boolean isTrue()",
+    };
+    private static final String[] FORBIDDEN = {"->", "::", "\\btry\\b", "\\bcatch\\b", "\\bfinally\\b", "\\bassert\\b",
+        "\\bsynchronized\\b", "\\bvar\\b", "\\binstanceof\\b", "\\bstatic\\s*\\{", "\\bSystem\\b", "\\bThread\\b",
+        "\\bMath\\.\\w*Exact\\b", "\\bwhile\\s*\\(true", "\\bnull\\b", "\"\\s*\\+", "\\+\\s*\"", "\\bRandom\\b"};
+
+    private final Check check = new Check("FaceTest");
+
+    public static void main(String[] args) throws IOException {
+        FaceTest test = new FaceTest();
+        test.methods();
+        test.others();
+        test.text();
+        test.check.close();
+    }
+
+    private static String shown(Method method) {
+        StringBuilder text = new StringBuilder(method.getReturnType().getName());
+        text.append(' ').append(method.getName()).append('(');
+        for (int index = 0; index < method.getParameterCount(); index++) {
+            text.append(index == 0 ? "" : ",").append(method.getParameterTypes()[index].getName());
+        }
+        text.append(')');
+        for (Class<?> thrown : method.getExceptionTypes()) {
+            Matcher word = Pattern.compile("(Argument|State|Index|Element|Operation|Arithmetic)").matcher(
+                    thrown.getSimpleName());
+            text.append(' ').append(word.find() ? word.group() : thrown.getName());
+        }
+        return text.toString();
+    }
+
+    private void methods() {
+        TreeSet<String> due = new TreeSet<>(List.of(FACE));
+        TreeSet<String> seen = new TreeSet<>();
+        TreeSet<String> names = new TreeSet<>();
+        TreeSet<String> hidden = new TreeSet<>();
+        for (Method method : Sidelessly.class.getDeclaredMethods()) {
+            if (Modifier.isPublic(method.getModifiers())) {
+                seen.add(shown(method));
+                names.add(method.getName());
+            } else {
+                check.same(method.getName() + " is private", true, Modifier.isPrivate(method.getModifiers()));
+                hidden.add(method.getName());
+            }
+        }
+        check.same("the methods of the face", due, seen);
+        for (Class<?> inner : Sidelessly.class.getDeclaredClasses()) {
+            for (Method method : inner.getDeclaredMethods()) {
+                hidden.add(method.getName());
+            }
+        }
+        hidden.retainAll(names);
+        check.same("no other method has a name of the face", new TreeSet<String>(), hidden);
+    }
+
+    private void others() {
+        Constructor<?>[] constructors = Sidelessly.class.getDeclaredConstructors();
+        check.same("constructors", 1, constructors.length);
+        check.same("it is public", true, Modifier.isPublic(constructors[0].getModifiers()));
+        check.same("without parameters", 0, constructors[0].getParameterCount());
+        check.same("a final class", true, Modifier.isFinal(Sidelessly.class.getModifiers()));
+        for (Field field : Sidelessly.class.getDeclaredFields()) {
+            check.same(field.getName() + " is private", true, Modifier.isPrivate(field.getModifiers()));
+            check.same(field.getName() + " is final", true, Modifier.isFinal(field.getModifiers()));
+        }
+        Class<?>[] inner = Sidelessly.class.getDeclaredClasses();
+        check.same("some twelve classes", true, inner.length < 12);
+        for (Class<?> one : inner) {
+            check.same(one.getSimpleName() + " is private", true, Modifier.isPrivate(one.getModifiers()));
+            check.same(one.getSimpleName() + " is static", true, Modifier.isStatic(one.getModifiers()));
+            int fields = 0;
+            for (Field field : one.getDeclaredFields()) {
+                fields += Modifier.isStatic(field.getModifiers()) ? 0 : 1;
+            }
+            check.same(one.getSimpleName() + " has few fields", true, fields <= 20);
+        }
+    }
+
+    private void text() throws IOException {
+        String source = Files.readString(Path.of("src/main/java/Sidelessly.java"), StandardCharsets.ISO_8859_1);
+        List<String> imports = new ArrayList<>();
+        Matcher found = Pattern.compile("(?m)^import (.*);$").matcher(source);
+        while (found.find()) {
+            imports.add(found.group(1));
+        }
+        check.same("imports", List.of("java.util.NoSuchElementException"), imports);
+        check.same("plain signs alone", true, source.chars().allMatch(sign -> sign == '\n' || sign >= 32 && sign < 127));
+        String bare = source.replaceAll("(?s)/\\*.*?\\*/", " ").replaceAll("//[^\\n]*", " ");
+        for (String forbidden : FORBIDDEN) {
+            check.same("no " + forbidden, false, Pattern.compile(forbidden).matcher(bare).find());
+        }
+        String withoutRow = bare.replaceFirst("(?s)class Row \\{.*?class Merger", "class Merger");
+        check.same("an array stands in Row", true, bare.contains("["));
+        check.same("arrays are touched in Row alone", false, withoutRow.contains("["));
+    }
+}
