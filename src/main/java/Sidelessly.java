@@ -1113,7 +1113,6 @@ public final class Sidelessly {
             rootCount++;
             rootFormulas.put(root, formula);
             rootStarts.put(root, start);
-            rootCuts.put(root, NONE);
             int stop = start + formulas.sizes.at(formula);
             for (int leaf = start; leaf < stop; leaf++) {
                 leafRoots.put(leaf, root);
@@ -1765,10 +1764,7 @@ public final class Sidelessly {
         }
 
         private int bondOfBoth(int stronger, int first, int second) {
-            if (first == stronger || second == stronger) {
-                return stronger;
-            }
-            return first == ALIKE ? second : first;
+            return first == ALIKE || second == stronger ? second : first;
         }
 
         private boolean isSomeConclusionNear(Net net) {

@@ -94,6 +94,7 @@ public final class FormulasTest {
 
     private void fullJoins(String kind) {
         check.refuses(kind + " without room", Check.STATE, () -> Houses.withFormulas(60), in -> join(in, kind, 59, 9));
+        check.tells(kind + " that is the last of 60", 59, () -> lastOf(kind), in -> join(in, kind, 4, 9));
         check.refuses(kind + " of nothing without room", Check.INDEX, () -> Houses.withFormulas(60),
                 in -> join(in, kind, 60, 0));
         check.refuses(kind + " of 13 atoms without room", Check.ARGUMENT, () -> fullWithChain(kind),
@@ -112,6 +113,16 @@ public final class FormulasTest {
         for (int next = chain + 1; next < 60; next++) {
             join(house, kind, 1 + (next - chain) / 10, (next - chain) % 10);
         }
+        return house;
+    }
+
+    /** The last one of 60 formulas is of 4 and 9, and there is none of 4 and 4, nor of 9 and 9. */
+    private static Sidelessly lastOf(String kind) {
+        Sidelessly house = Houses.withAtoms();
+        for (int next = 10; next < 59; next++) {
+            join(house, kind, (next - 10) / 9 + ((next - 10) / 9 < 4 ? 0 : 1), (next - 10) % 9);
+        }
+        join(house, kind, 4, 9);
         return house;
     }
 

@@ -221,6 +221,10 @@ public final class MonoidTest {
         int whole = Houses.told(second, "(a|(A|(b|B)))");
         check.same("a mix of two axioms", "2 then 0", second.counter(whole) + " then " + (second.value(whole) & 1));
         check.same("its monoid", secondTold(), told(second));
+        Sidelessly threefold = new Sidelessly();
+        check.same("a against a + a + a", 3, threefold.counter(Houses.told(threefold, "(A|(a*(a*a)))")));
+        check.same("size 3, the pole being 0, the set of a being 1", "2 0 0 0 0 pole 1 closed 1 size 3",
+                told(threefold));
         Sidelessly same = new Sidelessly();
         int alone = Houses.told(same, "((a*b)|((A|B)|(c|C)))");
         int size = same.counter(alone);
@@ -252,7 +256,9 @@ public final class MonoidTest {
     /** The oracle tries all monoids one by one. */
     private void countersLikeTheOracle() {
         String[] texts = {"((a*b)|((A|B)|(c|C)))", "((b|C)*(a|(B|c)))", "(c|(A|(a*C)))", "((d*D)|(e|E))",
-            "((a|b)|(A*B))", "((a|A)|(a*A))", "(((a*A)|(a|A))|(e|(c|(E*C))))", "((A|(b*C))|((a*c)|B))", "(a|(a|(A|A)))"};
+            "((a|b)|(A*B))", "((a|A)|(a*A))", "(((a*A)|(a|A))|(e|(c|(E*C))))", "((A|(b*C))|((a*c)|B))", "(a|(a|(A|A)))",
+            "(A|(a*(a*a)))", "((A|(a*(a*a)))*((b|B)*(c|C)))", "((C|(c*(c*c)))*(e|E))",
+            "((d|(D*(D*D)))*((b|B)*(a|A)))", "(((A|A)|(a*a))*(D|(d*(d*d))))"};
         for (String text : texts) {
             Sidelessly house = new Sidelessly();
             Oracle oracle = new Oracle();
