@@ -979,7 +979,7 @@ public final class Sidelessly {
         }
     }
 
-    /** Roots, leaves, links and cuts. A root has its leaves side by side, from its start on, whatever steps are made. */
+    /** Roots, leaves, links and cuts. A root has its leaves side by side, from its start on, whatever steps come. */
     private static final class Bench {
         private final Formulas formulas;
         final Row rootFormulas = new Row(MOST_NODES);
@@ -1090,8 +1090,9 @@ public final class Sidelessly {
         boolean joinsDuals() {
             for (int leaf = 0; leaf < leafCount; leaf++) {
                 int other = leafLinks.at(leaf);
-                if (hasLeaf(leaf) && other != NONE
-                        && !(leafLinks.at(other) == leaf && formulas.areDual(leafAtoms.at(leaf), leafAtoms.at(other)))) {
+                boolean isLinked = hasLeaf(leaf) && other != NONE;
+                boolean isBack = leafLinks.at(other) == leaf;
+                if (isLinked && !(isBack && formulas.areDual(leafAtoms.at(leaf), leafAtoms.at(other)))) {
                     return false;
                 }
             }

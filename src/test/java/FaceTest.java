@@ -146,7 +146,8 @@ public final class FaceTest {
             imports.add(found.group(1));
         }
         check.same("imports", List.of("java.util.NoSuchElementException"), imports);
-        check.same("plain signs alone", true, source.chars().allMatch(sign -> sign == '\n' || sign >= 32 && sign < 127));
+        boolean isPlain = source.chars().allMatch(sign -> sign == '\n' || sign >= 32 && sign < 127);
+        check.same("plain signs alone", true, isPlain);
         String bare = source.replaceAll("(?s)/\\*.*?\\*/", " ").replaceAll("//[^\\n]*", " ");
         for (String forbidden : FORBIDDEN) {
             check.same("no " + forbidden, false, Pattern.compile(forbidden).matcher(bare).find());
