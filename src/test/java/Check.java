@@ -24,19 +24,37 @@ final class Check {
     static final Class<UnsupportedOperationException> UNSUPPORTED = UnsupportedOperationException.class;
     static final Class<java.util.NoSuchElementException> NO_SUCH = java.util.NoSuchElementException.class;
     static final Class<ArithmeticException> ARITHMETIC = ArithmeticException.class;
+    static final Class<RuntimeException> NOTHING = RuntimeException.class;
 
     private final String test;
     private final List<String> wrong = new ArrayList<>();
+    private String sentence = "";
     private int looks;
 
     Check(String test) {
         this.test = test;
     }
 
+    /** The words of the document that the next looks are about; they are printed with what is wrong. */
+    void sentence(String words) {
+        sentence = "<" + words + "> ";
+    }
+
     void same(String what, Object due, Object got) {
         looks++;
         if (!due.equals(got)) {
-            wrong.add(what + " answered " + got + ", due is " + due);
+            wrong.add(sentence + what + " answered " + got + ", due is " + due);
+        }
+    }
+
+    /** The call throws the exception that is due, and changes nothing by that; or it answers, if none is due. */
+    void answers(String what, Class<? extends RuntimeException> dueThrow, Object dueAnswer, Recipe recipe,
+            HouseCall call) {
+        if (dueThrow == NOTHING) {
+            Sidelessly asked = recipe.make();
+            same(what, dueAnswer, answerOf(() -> call.make(asked)));
+        } else {
+            refuses(what, dueThrow, recipe, call);
         }
     }
 

@@ -3,6 +3,9 @@
  * as how many points a letter had, is asked last.
  */
 final class Sight {
+    private static final int FORMULAS_WITH_PARTS = 10;
+    private static final int FORMULAS_WITH_VALUES = 10;
+
     private final StringBuilder seen = new StringBuilder();
     private final Sidelessly house;
 
@@ -26,17 +29,20 @@ final class Sight {
         return answer;
     }
 
+    /** The kinds of all, and the parts of the last ones: a call that goes wrong half way leaves its own ones behind. */
     private void seeFormulas() {
-        for (int formula = 0; formula < 61; formula++) {
-            int one = formula;
-            Object kind = see(() -> house.kind(one));
-            if (!(kind instanceof Character)) {
+        int many = 0;
+        while (many < 61) {
+            int one = many;
+            if (!(see(() -> house.kind(one)) instanceof Character)) {
                 break;
             }
-            if ((Character) kind == '*' || (Character) kind == '|') {
-                see(() -> house.part(one, false));
-                see(() -> house.part(one, true));
-            }
+            many++;
+        }
+        for (int formula = Math.max(0, many - FORMULAS_WITH_PARTS); formula < many; formula++) {
+            int one = formula;
+            see(() -> house.part(one, false));
+            see(() -> house.part(one, true));
         }
         see(house::meanAtoms);
     }
@@ -58,6 +64,15 @@ final class Sight {
         see(house::meaning);
         see(house::isClique);
         see(house::checksum);
+        seeNextOfBench();
+    }
+
+    /** Which cut is the first one, which number a root gets that comes now, and how many leaves have come. */
+    private void seeNextOfBench() {
+        see(() -> house.step(0));
+        see(house::checksum);
+        see(() -> house.place(0));
+        see(house::clear);
     }
 
     private void seeSpaces() {
@@ -71,37 +86,63 @@ final class Sight {
         }
     }
 
+    /** With the set of the number 0 alone for each letter the value of a turned atom is the pole. */
     private void seeMonoid() {
         seen.append("\nmonoid ");
-        for (int formula = 0; formula < 20; formula++) {
+        seeValues();
+        for (char letter = 'a'; letter <= 'e'; letter++) {
+            char one = letter;
+            see(() -> house.set(one, 1));
+        }
+        seeValues();
+        see(() -> house.value(house.atom('a', true)));
+        see(() -> house.monoid(1, 0));
+    }
+
+    private void seeValues() {
+        for (int formula = 0; formula < FORMULAS_WITH_VALUES; formula++) {
             int one = formula;
             if (!(see(() -> house.value(one)) instanceof Integer)) {
                 break;
             }
         }
-        for (char letter = 'a'; letter <= 'e'; letter++) {
-            char one = letter;
-            see(() -> house.set(one, 0));
-        }
-        see(() -> house.monoid(1, 0));
     }
 
     private void seeDerivations() {
-        for (int derivation = 0; derivation < 25; derivation++) {
+        int many = 0;
+        boolean[] isSingle = new boolean[24];
+        while (many < 24) {
             seen.append("\nderivation ");
-            int one = derivation;
-            Object many = see(() -> house.conclusions(one));
-            if (!(many instanceof Integer)) {
+            int one = many;
+            Object conclusions = see(() -> house.conclusions(one));
+            if (!(conclusions instanceof Integer)) {
                 break;
             }
-            for (int index = 0; index < (Integer) many; index++) {
+            isSingle[many] = (Integer) conclusions == 1;
+            for (int index = 0; index < (Integer) conclusions; index++) {
                 int seenIndex = index;
                 see(() -> house.conclusion(one, seenIndex));
             }
+            many++;
         }
-        for (int derivation = 0; derivation < 24; derivation++) {
+        seeWhichAreUsed(many, isSingle);
+    }
+
+    /** One conclusion alone is no atom, so that a cut with an axiom is refused at any rate, if used or not. */
+    private void seeWhichAreUsed(int many, boolean[] isSingle) {
+        Object axiom = see(() -> house.axiom(0));
+        int partner = axiom instanceof Integer ? (Integer) axiom : many - 1;
+        for (int derivation = 0; derivation < many; derivation++) {
             int one = derivation;
-            see(() -> house.joinPar(one, 0, 1));
+            if (isSingle[one]) {
+                see(() -> house.joinCut(partner, 0, one, 0));
+            }
+        }
+        for (int derivation = 0; derivation < many; derivation++) {
+            int one = derivation;
+            if (!isSingle[one]) {
+                see(() -> house.joinPar(one, 0, 1));
+            }
         }
     }
 }
