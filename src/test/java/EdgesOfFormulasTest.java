@@ -13,6 +13,7 @@ public final class EdgesOfFormulasTest {
         test.sixtyByAtoms();
         test.sixtyByJoins();
         test.sixtyByDuals();
+        test.sixtyByDualOfFirst();
         test.sixtyByAxioms();
         test.sixtyByDerivations();
         test.thereAlready();
@@ -145,6 +146,23 @@ public final class EdgesOfFormulasTest {
         check.refuses("of an atom, without room", Check.STATE, () -> with(60), house -> house.dual(13));
     }
 
+    private void sixtyByDualOfFirst() {
+        check.sentence("At most 60; dual: IllegalStateException if there would be more than 60 formulas");
+        for (int told = 58; told <= 60; told++) {
+            int many = told;
+            Check.Recipe recipe = () -> {
+                Sidelessly house = new Sidelessly();
+                house.times(house.atom('a', false), 0);
+                Houses.fillFormulas(house, many);
+                return house;
+            };
+            check.answers("of the first atom, behind " + told, told > 59 ? Check.STATE : Check.NOTHING, told, recipe,
+                    house -> house.dual(0));
+            check.answers("of the times of it, behind " + told, told > 58 ? Check.STATE : Check.NOTHING, 59, recipe,
+                    house -> house.dual(1));
+        }
+    }
+
     private static int atomsOf(int chain) {
         return chain;
     }
@@ -203,6 +221,15 @@ public final class EdgesOfFormulasTest {
         house.joinPar(2, 0, 1);
         check.same("joinPar adds none that is there", 13, house.conclusion(3, 1));
         check.same("the next one", 15, house.par(0, 0));
+        Sidelessly lone = new Sidelessly();
+        lone.atom('d', true);
+        check.same("the dual of an atom", 1, lone.dual(0));
+        check.same("is the atom", 1, lone.atom('d', false));
+        check.same("the dual of a times", 3, lone.dual(lone.times(0, 1)));
+        check.same("is the par", 3, lone.par(1, 0));
+        Sidelessly derived = new Sidelessly();
+        derived.axiom(derived.atom('d', true));
+        check.same("the dual of an axiom is the atom", 1, derived.atom('d', false));
     }
 
     private void thereAlreadyInFullHouse() {

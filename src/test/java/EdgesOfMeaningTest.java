@@ -324,6 +324,8 @@ public final class EdgesOfMeaningTest {
         check.tells("near for one of many conclusions", true, net("a (b|B) A", 0, 3, 1, 2), house -> house.isClique());
         check.tells("a pair of rows that is far for all", false, net("(a*A) b B", 0, 1, 2, 3),
                 house -> house.isClique());
+        check.tells("a pair of rows that is far for all, by the last leaves", false, net("b B (a*A)", 0, 1, 2, 3),
+                house -> house.isClique());
     }
 
     private void turnedAtoms() {

@@ -20,6 +20,8 @@ public final class EdgesOfProofsTest {
         test.tenSwitches();
         test.parsAndTimesAlone();
         test.cutsAreNoSwitches();
+        test.firstAndLastOfTen();
+        test.turnsOfTimes();
         test.noProof();
         test.tenRules();
         test.splitsOfMany();
@@ -345,6 +347,84 @@ public final class EdgesOfProofsTest {
         check.tells("byChoices of eleven cuts", true, Houses::full, house -> house.byChoices());
         check.tells("byTrips of ten joins and a cut", false, cutting(() -> withChains(5, 5, false), 0, 1),
                 house -> house.byTrips());
+    }
+
+    /**
+     * The par (b|a) is cut with a times: there is a ring if it chooses the second part. Four pairs of a par and a times
+     * matter not, and stand behind the par or ahead of it.
+     */
+    private static Sidelessly withBadPar(boolean isLast) {
+        String ring = "(b|a)";
+        String filler = "(B*((e|E)*((e|E)*((e|E)*(e|E)))))";
+        Sidelessly house = isLast ? Houses.withRoots(filler, "(B*A)", ring, "b") : Houses.withRoots(ring, "(B*A)", filler, "b");
+        house.cut(isLast ? 1 : 0, isLast ? 2 : 1);
+        int pairs = isLast ? 1 : 5;
+        for (int leaf = pairs; leaf < pairs + 8; leaf += 2) {
+            house.link(leaf, leaf + 1);
+        }
+        return isLast ? Houses.linking(house, 11, 0, 12, 10, 9, 13) : Houses.linking(house, 0, 4, 1, 3, 2, 13);
+    }
+
+    private void firstAndLastOfTen() {
+        check.sentence("for all ways to turn one trip goes through all formulas: turns of the first and the last of ten");
+        isBad("the first one of ten is the bad par", 1, () -> withBadPar(false));
+        isBad("the last one of ten is the bad par", 16, () -> withBadPar(true));
+        check.sentence("for all ways to turn: eleven are too many, but isTrue holds");
+        for (int pars = 4; pars <= 6; pars++) {
+            int many = pars;
+            check.refuses("byTrips", Check.UNSUPPORTED, () -> withRing(many), house -> house.byTrips());
+            check.tells("isTrue", true, () -> withRing(many), house -> house.isTrue());
+            check.tells("isTrue, the times ahead of the ring", true, () -> withRingBehindTimes(many),
+                    house -> house.isTrue());
+        }
+        check.refuses("eleven pars", Check.UNSUPPORTED, EdgesOfProofsTest::withEleventhBad,
+                house -> house.byChoices());
+        check.refuses("first bad choice of eleven", Check.UNSUPPORTED, EdgesOfProofsTest::withEleventhBad,
+                house -> house.badChoice());
+        check.tells("the eleventh par alone is bad", false, EdgesOfProofsTest::withEleventhBad,
+                house -> house.byContraction());
+        check.tells("isTrue", true, EdgesOfProofsTest::withEleventhBad, house -> house.isTrue());
+    }
+
+    private static Sidelessly withRingBehindTimes(int pars) {
+        StringBuilder joined = new StringBuilder("B");
+        for (int par = 1; par < pars; par++) {
+            joined.insert(0, "(B*").append(")");
+        }
+        Sidelessly house = Houses.withRoots(joined.toString());
+        for (int par = 0; par < pars; par++) {
+            Houses.placeAll(house, "(A*(b|a))");
+        }
+        for (int par = 0; par < pars; par++) {
+            house.link(pars + 3 * par + 2, pars + 3 * ((par + 1) % pars));
+            house.link(pars + 3 * par + 1, par);
+        }
+        return house;
+    }
+
+    /** Eleven pars, the last one of them having a ring by its second part. */
+    private static Sidelessly withEleventhBad() {
+        StringBuilder times = new StringBuilder("B");
+        StringBuilder pars = new StringBuilder("(A*(b|a))");
+        for (int next = 0; next < 9; next++) {
+            times.insert(0, "(").append("*C)");
+            pars.insert(0, "(").append("|c)");
+        }
+        Sidelessly house = Houses.withRoots("(" + times + "*(e|E))", pars.toString());
+        for (int leaf = 1; leaf <= 9; leaf++) {
+            house.link(leaf, 14 + leaf);
+        }
+        return Houses.linking(house, 0, 13, 10, 11, 12, 14);
+    }
+
+    /** Two rings that share a way: for some turns of the times one trip goes through all, for others not. */
+    private void turnsOfTimes() {
+        check.sentence("At a times that is turned to the first part .. turned to the second part likewise");
+        isBad("two rings", 0, net("((a*b)*(A*B))", 0, 2, 1, 3));
+        isBad("two rings crossed", 0, net("((a*b)*(B*A))", 0, 3, 1, 2));
+        isBad("two rings, the parts in turn", 0, net("((b*a)*(A*B))", 0, 3, 1, 2));
+        isBad("two rings by a cut", 0, cutting(net("(a*(b*c)) (A|(B|C)) (A*(B*C)) a b c",
+                0, 6, 1, 7, 2, 8, 3, 9, 4, 10, 5, 11), 0, 1));
     }
 
     private void noProof() {

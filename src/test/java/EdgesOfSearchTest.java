@@ -16,6 +16,7 @@ public final class EdgesOfSearchTest {
         test.orders();
         test.truthBeyondLimits();
         test.truthAfterAll();
+        test.truthBehindChanges();
         test.check.close();
     }
 
@@ -242,5 +243,32 @@ public final class EdgesOfSearchTest {
             house.proof(77);
             return house;
         }, house -> house.isTrue());
+    }
+
+    /** It looks at the bench as it stands, not at what another call has seen before. */
+    private void truthBehindChanges() {
+        check.sentence("isTrue: Returns whether all of it holds.");
+        Sidelessly house = Houses.full();
+        check.same("a proof", true, house.byContraction());
+        house.unlink(0);
+        check.same("a link less", true, house.isTrue());
+        check.same("no proof", false, house.byContraction());
+        house.link(0, 1);
+        check.same("linked again", true, house.isTrue());
+        check.same("a proof", true, house.byTrips());
+        house.step(3);
+        check.same("a step later", true, house.isTrue());
+        house.normal();
+        check.same("the normal form", true, house.isTrue());
+        check.same("a proof", true, house.byChoices());
+        house.clear();
+        check.same("an empty bench", true, house.isTrue());
+        house.place(0);
+        check.same("an open leaf", true, house.isTrue());
+        house.take(23);
+        check.same("an axiom", true, house.isTrue());
+        check.same("a proof", true, house.byChoices());
+        house.cut(0, 1);
+        check.same("cut with itself", true, house.isTrue());
     }
 }
