@@ -158,7 +158,8 @@ public final class EdgesOfBenchTest {
     }
 
     private void linksOfDuals() {
-        check.sentence("Two leaves that are dual atoms can be linked; UnsupportedOperationException if they are not dual");
+        check.sentence("Two leaves that are dual atoms can be linked; UnsupportedOperationException if they are not "
+                + "dual");
         String all = "aAbBcCdDeE";
         for (int one = 0; one < 10; one++) {
             for (int other = 0; other < 10; other++) {
@@ -227,7 +228,8 @@ public final class EdgesOfBenchTest {
     }
 
     private void cutsOfDuals() {
-        check.sentence("Two roots that are dual formulas can be cut; UnsupportedOperationException if they are not dual");
+        check.sentence("Two roots that are dual formulas can be cut; UnsupportedOperationException if they are not "
+                + "dual");
         String[] roots = {"a", "A", "(a*b)", "(A|B)", "(B|A)", "(A*B)", "(a|b)", "((a*b)|c)", "((A|B)*C)"};
         for (int one = 0; one < roots.length; one++) {
             for (int other = 0; other < roots.length; other++) {
@@ -439,7 +441,8 @@ public final class EdgesOfBenchTest {
 
     private void checksums() {
         check.sentence("Returns 7 at first, then for each root that is left 31 times itself plus its formula; then for "
-                + "each leaf that is left 31 times itself plus the linked leaf, -1 without; then .. how many cuts there "
+                + "each leaf that is left 31 times itself plus the linked leaf, -1 without; then .. how many cuts "
+                + "there "
                 + "are, then .. how many formulas.");
         check.tells("of nothing", wrapped(0, 0), Sidelessly::new, house -> house.checksum());
         check.tells("of an open leaf", wrapped(0, -1, 0, 2), () -> atoms(1), house -> house.checksum());

@@ -106,7 +106,8 @@ public final class EdgesOfCutsTest {
     }
 
     private void linkedWithEachOther() {
-        check.sentence("A step of two atoms that are linked with each other, or of which one is not linked, is refused.");
+        check.sentence("A step of two atoms that are linked with each other, or of which one is not linked, is "
+                + "refused.");
         check.refuses("linked with each other", Check.UNSUPPORTED, cutting(net("a A", 0, 1), 0, 1),
                 house -> house.step(0));
         check.refuses("cut the other way round", Check.UNSUPPORTED, cutting(net("a A", 0, 1), 1, 0),
@@ -160,8 +161,10 @@ public final class EdgesOfCutsTest {
         Sidelessly turned = cutting(net("((a*b)*c) ((A|B)|C)"), 1, 0).make();
         turned.step(0);
         check.same("the other one told first", "2:7 3:2 4:8 5:3", roots(turned));
-        check.same("the roots 2 and 3 are cut", "throws UnsupportedOperationException", answers(() -> turned.cut(2, 3)));
-        check.same("the roots 4 and 5 are cut", "throws UnsupportedOperationException", answers(() -> turned.cut(5, 4)));
+        check.same("the roots 2 and 3 are cut", "throws UnsupportedOperationException",
+                answers(() -> turned.cut(2, 3)));
+        check.same("the roots 4 and 5 are cut", "throws UnsupportedOperationException",
+                answers(() -> turned.cut(5, 4)));
         check.same("leaves keep their numbers", 1, turned.link(2, 5));
         check.same("none came or went", 6, turned.clear());
     }
@@ -298,7 +301,8 @@ public final class EdgesOfCutsTest {
         check.tells("the fewest links", 1, net("a A", 0, 1), house -> house.passes(0));
         check.tells("within one root", 1, net("(a|A)", 0, 1), house -> house.passes(1));
         check.tells("two links", 2, cutting(net("a A a A", 0, 1, 2, 3), 1, 2), house -> house.passes(0));
-        check.tells("past other cuts", 1, cutting(net("a A a A b B", 0, 1, 2, 3, 4, 5), 1, 2), house -> house.passes(4));
+        check.tells("past other cuts", 1, cutting(net("a A a A b B", 0, 1, 2, 3, 4, 5), 1, 2),
+                house -> house.passes(4));
     }
 
     private void longestWalk() {

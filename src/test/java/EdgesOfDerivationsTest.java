@@ -135,7 +135,8 @@ public final class EdgesOfDerivationsTest {
     }
 
     private void times() {
-        check.sentence("Joining one of a derivation and one of another one by times leaves the others of the first one, "
+        check.sentence("Joining one of a derivation and one of another one by times leaves the others of the first "
+                + "one, "
                 + "then those of the second one, and adds the times at the end");
         for (int one = 0; one < 3; one++) {
             for (int other = 0; other < 2; other++) {

@@ -138,7 +138,7 @@ public final class EdgesOfFormulasTest {
         for (int atoms = 2; atoms <= 12; atoms++) {
             int chain = atoms;
             check.same("a dual that takes the last " + (atoms - 1), 59, with(61 - atoms).dual(chain));
-            check.refuses("a dual that takes one more", Check.STATE, () -> with(62 - atomsOf(chain)),
+            check.refuses("a dual that takes one more", Check.STATE, () -> with(62 - chain),
                     house -> house.dual(chain));
             check.refuses("a dual in a full house", Check.STATE, () -> with(60), house -> house.dual(chain));
         }
@@ -161,10 +161,6 @@ public final class EdgesOfFormulasTest {
             check.answers("of the times of it, behind " + told, told > 58 ? Check.STATE : Check.NOTHING, 59, recipe,
                     house -> house.dual(1));
         }
-    }
-
-    private static int atomsOf(int chain) {
-        return chain;
     }
 
     private void sixtyByAxioms() {

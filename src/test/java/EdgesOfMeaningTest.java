@@ -357,7 +357,8 @@ public final class EdgesOfMeaningTest {
 
     /** Two walks of a, which is far, and b, which is near or has one point: alike, if both rows have the same one. */
     private void bondsOfJoins() {
-        check.sentence("for a times far if some part is, otherwise near if some part is; for a par near if some part is, "
+        check.sentence("for a times far if some part is, otherwise near if some part is; for a par near if some part "
+                + "is, "
                 + "otherwise far if some part is");
         check.tells("a par of near and far is near", true, net("(a|A)", 0, 1), house -> house.isClique());
         check.tells("a times of near and far is far", false, net("(a*A)", 0, 1), house -> house.isClique());

@@ -42,7 +42,8 @@ public final class EdgesOfMonoidsTest {
     }
 
     private void atFirst() {
-        check.sentence("The numbers below the size, 1 to 3, 1 at first .. some are the pole, none at first .. Each letter "
+        check.sentence("The numbers below the size, 1 to 3, 1 at first .. some are the pole, none at first .. Each "
+                + "letter "
                 + "has a set, none at first");
         check.same("the size before", 1, new Sidelessly().monoid(3, 0));
         for (char letter = 'a'; letter <= 'e'; letter++) {
@@ -210,7 +211,8 @@ public final class EdgesOfMonoidsTest {
     }
 
     private void leastCounters() {
-        check.sentence("the least size, then the least pole, then the least set of 'a' as a number, then of 'b' and so on");
+        check.sentence("the least size, then the least pole, then the least set of 'a' as a number, then of 'b' and "
+                + "so on");
         for (String told : COUNTERS) {
             String[] words = told.split(" ");
             Sidelessly house = withSets();

@@ -356,7 +356,8 @@ public final class EdgesOfProofsTest {
     private static Sidelessly withBadPar(boolean isLast) {
         String ring = "(b|a)";
         String filler = "(B*((e|E)*((e|E)*((e|E)*(e|E)))))";
-        Sidelessly house = isLast ? Houses.withRoots(filler, "(B*A)", ring, "b") : Houses.withRoots(ring, "(B*A)", filler, "b");
+        Sidelessly house = isLast ? Houses.withRoots(filler, "(B*A)", ring, "b")
+                : Houses.withRoots(ring, "(B*A)", filler, "b");
         house.cut(isLast ? 1 : 0, isLast ? 2 : 1);
         int pairs = isLast ? 1 : 5;
         for (int leaf = pairs; leaf < pairs + 8; leaf += 2) {
@@ -366,7 +367,8 @@ public final class EdgesOfProofsTest {
     }
 
     private void firstAndLastOfTen() {
-        check.sentence("for all ways to turn one trip goes through all formulas: turns of the first and the last of ten");
+        check.sentence("for all ways to turn one trip goes through all formulas: turns of the first and the last of "
+                + "ten");
         isBad("the first one of ten is the bad par", 1, () -> withBadPar(false));
         isBad("the last one of ten is the bad par", 16, () -> withBadPar(true));
         check.sentence("for all ways to turn: eleven are too many, but isTrue holds");

@@ -183,7 +183,8 @@ public final class EdgesOfSearchTest {
     }
 
     private void orders() {
-        check.sentence("by the leaf that is linked to the lowest one, then by that linked to the next lowest one, and so on");
+        check.sentence("by the leaf that is linked to the lowest one, then by that linked to the next lowest one, and "
+                + "so on");
         Sidelessly house = Houses.withRoots("((a*a)*a)", "A", "A", "A");
         String[] due = {"3 4 5 0 1 2", "3 5 4 0 2 1", "4 3 5 1 0 2", "4 5 3 2 0 1", "5 3 4 1 2 0", "5 4 3 2 1 0"};
         for (int index = 0; index < due.length; index++) {
@@ -201,7 +202,8 @@ public final class EdgesOfSearchTest {
     }
 
     private void truthBeyondLimits() {
-        check.sentence("Checks that the three tests agree, if there are not too many pars and times; .. its meaning is a "
+        check.sentence("Checks that the three tests agree, if there are not too many pars and times; .. its meaning "
+                + "is a "
                 + "clique, if there are not too many rows");
         for (int joins = 4; joins <= 11; joins++) {
             int many = joins;

@@ -392,7 +392,8 @@ public final class RefusalsTest {
                 int most = letter == 'a' ? 3 : 1;
                 boolean isBad = letter == 'f' || one < 0 || other < 0 || one >= most || other >= most || one == other;
                 check.answers("near of " + letter + ", " + one + ", " + other, isBad ? Check.ARGUMENT : Check.NOTHING,
-                        one + other == 3, RefusalsTest::withPoints, house -> house.near(letter, one, other, one > other));
+                        one + other == 3, RefusalsTest::withPoints,
+                                house -> house.near(letter, one, other, one > other));
             }
         }
     }
