@@ -22,6 +22,7 @@ public final class EdgesOfDerivationsTest {
         test.usedByAll();
         test.notUsed();
         test.notDual();
+        test.largeCuts();
         test.howMany();
         test.takesInFull();
         test.takesClear();
@@ -476,6 +477,43 @@ public final class EdgesOfDerivationsTest {
         if (kind.equals("|")) {
             house.joinPar(7, one, other);
         }
+        return house;
+    }
+
+    /** A cut makes no formula, so that the atoms of both conclusions are not counted. */
+    private void largeCuts() {
+        check.sentence("by a cut it leaves the others alone, if both are dual");
+        Check.Recipe large = Houses::withLargeConclusion;
+        check.refuses("12 atoms and 1", Check.UNSUPPORTED, large, house -> house.joinCut(19, 2, 0, 0));
+        check.refuses("1 atom and 12", Check.UNSUPPORTED, large, house -> house.joinCut(0, 0, 19, 2));
+        check.refuses("12 atoms and 1 that is used", Check.NO_SUCH, large, house -> house.joinCut(19, 2, 2, 0));
+        Sidelessly eights = withEights();
+        check.same("8 atoms and 8", 23, eights.joinCut(10, 0, 22, 2));
+        check.same("the others of the second one", "0 1", shown(eights, 23));
+        check.same("nine axioms", 9, eights.take(23));
+        check.same("two conclusions and the cut", 4, eights.roots());
+        check.same("it is a proof", true, eights.byContraction());
+        check.same("seven joins and eight atoms vanish", 15, eights.normal());
+        check.same("one link is left", 1, eights.linked(0));
+        check.same("8 atoms and 8 in turn", 23, withEights().joinCut(22, 2, 10, 0));
+        check.refuses("8 atoms and 1", Check.UNSUPPORTED, EdgesOfDerivationsTest::withEights,
+                house -> house.joinCut(10, 0, 22, 0));
+    }
+
+    /** The derivation 10 has a times of four (a|A) alone, 22 has a, A and the dual of it; there are 23. */
+    private static Sidelessly withEights() {
+        Sidelessly house = Houses.withAxioms(0);
+        int times = house.joinPar(house.axiom(0), 0, 1);
+        for (int next = 1; next < 4; next++) {
+            times = house.joinTimes(times, 0, house.joinPar(house.axiom(0), 0, 1), 0);
+        }
+        int chain = house.joinTimes(house.axiom(0), 1, house.axiom(0), 0);
+        for (int next = 1; next < 4; next++) {
+            chain = house.joinTimes(chain, next, house.axiom(0), 0);
+        }
+        chain = house.joinPar(chain, 1, 2);
+        chain = house.joinPar(chain, 4, 1);
+        house.joinPar(chain, 3, 2);
         return house;
     }
 
