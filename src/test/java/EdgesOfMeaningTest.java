@@ -23,6 +23,8 @@ public final class EdgesOfMeaningTest {
         test.cliquesOfFewRows();
         test.turnedAtoms();
         test.bondsOfJoins();
+        test.bondsInside();
+        test.bondsOfConclusions();
         test.check.close();
     }
 
@@ -358,8 +360,7 @@ public final class EdgesOfMeaningTest {
     /** Two walks of a, which is far, and b, which is near or has one point: alike, if both rows have the same one. */
     private void bondsOfJoins() {
         check.sentence("for a times far if some part is, otherwise near if some part is; for a par near if some part "
-                + "is, "
-                + "otherwise far if some part is");
+                + "is, otherwise far if some part is");
         check.tells("a par of near and far is near", true, net("(a|A)", 0, 1), house -> house.isClique());
         check.tells("a times of near and far is far", false, net("(a*A)", 0, 1), house -> house.isClique());
         check.tells("a par of far and alike is far", false, net("((a|b)*(A|B))", 0, 2, 1, 3),
@@ -376,5 +377,60 @@ public final class EdgesOfMeaningTest {
             house.points('b', 1);
             return house;
         }, house -> house.isClique());
+    }
+
+    /**
+     * Of rows that differ for a and c alone, the large formula has a far or alike part beside its c; they are not near
+     * just if a and c are not both near or both far. What b is matters not: all other rows are near at some conclusion.
+     */
+    private void bondsInside() {
+        check.sentence("for a times far if some part is, otherwise near if some part is; for a par near if some part "
+                + "is, otherwise far if some part is; parts of parts");
+        for (int near = 0; near < 8; near++) {
+            boolean isNearA = (near & 1) != 0;
+            boolean isNearC = (near & 4) != 0;
+            String what = " in a times, near " + near;
+            clique("a times at first" + what, isNearA == isNearC, near, net("((a*b)*c) (A*C) B", 0, 3, 1, 5, 2, 4));
+            clique("a times, turned" + what, isNearA == isNearC, near, net("((b*a)*c) (A*C) B", 0, 5, 1, 3, 2, 4));
+            clique("a times behind" + what, isNearA == isNearC, near, net("(c*(a*b)) (A*C) B", 0, 4, 1, 3, 2, 5));
+            clique("a par at first" + what, isNearA == isNearC, near, net("((a|b)*c) (A*C) B", 0, 3, 1, 5, 2, 4));
+            clique("a par, turned" + what, isNearA == isNearC, near, net("((b|a)*c) (A*C) B", 0, 5, 1, 3, 2, 4));
+            clique("a par behind" + what, isNearA == isNearC, near, net("(c*(b|a)) (A*C) B", 0, 4, 1, 5, 2, 3));
+            clique("a proof with a times in a par, near " + near, true, near,
+                    net("((a*b)|c) (A|B) C", 0, 3, 1, 4, 2, 5));
+            clique("a proof with a par in a times, near " + near, true, near,
+                    net("((a|b)*c) (A*B) C", 0, 3, 1, 4, 2, 5));
+        }
+    }
+
+    /** The bits of near tell whether the points 0 and 1 of a, of b and of c are near. */
+    private void clique(String what, boolean due, int near, Check.Recipe recipe) {
+        check.tells(what, due, () -> {
+            Sidelessly house = recipe.make();
+            for (int letter = 0; letter < 3; letter++) {
+                house.near((char) ('a' + letter), 0, 1, (near >> letter & 1) == 1);
+            }
+            return house;
+        }, house -> house.isClique());
+    }
+
+    private void bondsOfConclusions() {
+        check.sentence("if each two unlike rows are near for some conclusion");
+        for (int isNear = 0; isNear < 2; isNear++) {
+            clique("the first root is cut, near " + isNear, true, isNear, cut(net("a A a A", 0, 3, 1, 2), 0, 1));
+            clique("the second root is cut, near " + isNear, true, isNear, cut(net("a A a A", 0, 1, 2, 3), 1, 2));
+            clique("what is cut is near for nothing, near " + isNear, false, isNear,
+                    cut(net("(a|A) (b*B) (A*a)", 0, 1, 2, 3, 4, 5), 0, 2));
+            clique("nor is it far, near " + isNear, true, isNear,
+                    cut(net("(A*a) (b|B) (a|A)", 0, 1, 2, 3, 4, 5), 2, 0));
+        }
+    }
+
+    private static Check.Recipe cut(Check.Recipe recipe, int one, int other) {
+        return () -> {
+            Sidelessly house = recipe.make();
+            house.cut(one, other);
+            return house;
+        };
     }
 }
