@@ -40,6 +40,10 @@ final class Check {
         sentence = "<" + words + "> ";
     }
 
+    int looks() {
+        return looks;
+    }
+
     void same(String what, Object due, Object got) {
         looks++;
         if (!due.equals(got)) {

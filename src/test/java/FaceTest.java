@@ -6,6 +6,7 @@ import java.lang.reflect.Modifier;
 import java.nio.charset.StandardCharsets;
 import java.nio.file.Files;
 import java.nio.file.Path;
+import java.util.ArrayList;
 import java.util.List;
 import java.util.TreeSet;
 import java.util.regex.Matcher;
@@ -71,6 +72,7 @@ public final class FaceTest {
     public static void main(String[] args) throws IOException {
         FaceTest test = new FaceTest();
         test.methods();
+        test.document();
         test.others();
         test.text();
         test.check.close();
@@ -84,9 +86,7 @@ public final class FaceTest {
         }
         text.append(')');
         for (Class<?> thrown : method.getExceptionTypes()) {
-            Matcher word = Pattern.compile("(Argument|State|Index|Element|Operation|Arithmetic)").matcher(
-                    thrown.getSimpleName());
-            text.append(' ').append(word.find() ? word.group() : thrown.getName());
+            text.append(' ').append(wordOf(thrown.getSimpleName()));
         }
         return text.toString();
     }
@@ -108,6 +108,36 @@ public final class FaceTest {
         check.same("the methods of the face", due, seen);
         hidden.retainAll(names);
         check.same("no private method has a name of the face", new TreeSet<String>(), hidden);
+    }
+
+    /** The document's face, and the faces that its promises begin with, are the one that is looked for here. */
+    private void document() throws IOException {
+        Path path = Path.of("../shared/DOC.md");
+        if (!Files.isReadable(path)) {
+            System.out.println(path + " is not here: whether its face is that of this test is not looked at");
+            return;
+        }
+        Pattern face = Pattern.compile("( +public |`)(\\w+ \\w+)(\\(.*?\\))(?: throws ([\\w, ]+))?[;`].*");
+        List<String> seen = new ArrayList<>();
+        List<String> promised = new ArrayList<>();
+        for (String line : Files.readAllLines(path, StandardCharsets.UTF_8)) {
+            Matcher told = face.matcher(line);
+            if (told.matches()) {
+                StringBuilder text = new StringBuilder(told.group(2));
+                text.append(told.group(3).replaceAll(" \\w+(,|\\))", "$1").replace(" ", ""));
+                for (String thrown : told.group(4) == null ? new String[0] : told.group(4).split(", ")) {
+                    text.append(' ').append(wordOf(thrown));
+                }
+                (told.group(1).equals("`") ? promised : seen).add(text.toString());
+            }
+        }
+        check.same("the face of the document", List.of(FACE), seen);
+        check.same("the faces of the promises", List.of(FACE), promised);
+    }
+
+    private static String wordOf(String thrown) {
+        Matcher word = Pattern.compile("(Argument|State|Index|Element|Operation|Arithmetic)").matcher(thrown);
+        return word.find() ? word.group() : thrown;
     }
 
     private void others() {

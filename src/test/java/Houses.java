@@ -156,4 +156,25 @@ final class Houses {
         }
         return house;
     }
+
+    /** Roots that are told by a text like "(a*b) A B", and links, two leaves each; a wrong one ends the test. */
+    static Sidelessly net(String roots, int... links) {
+        try {
+            return linking(withRoots(roots.split(" ")), links);
+        } catch (RuntimeException e) {
+            throw new AssertionError("such a net can't be made: " + roots, e);
+        }
+    }
+
+    /** The same house with cuts, two roots each; a wrong one ends the test. */
+    static Sidelessly cutting(Sidelessly house, int... roots) {
+        try {
+            for (int index = 0; index + 1 < roots.length; index += 2) {
+                house.cut(roots[index], roots[index + 1]);
+            }
+            return house;
+        } catch (RuntimeException e) {
+            throw new AssertionError("such a cut can't be made", e);
+        }
+    }
 }
