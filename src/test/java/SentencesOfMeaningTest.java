@@ -61,6 +61,17 @@ public final class SentencesOfMeaningTest {
         return house;
     }
 
+    /** A proof: a times of so many atoms, each one linked with a root A; the rows are more than 243 from 8 on. */
+    private static Sidelessly withStar(int atoms) {
+        Sidelessly house = Houses.withChain(false, atoms);
+        house.place(atoms);
+        for (int leaf = 0; leaf < atoms; leaf++) {
+            house.place(1);
+            house.link(leaf, atoms + leaf);
+        }
+        return house;
+    }
+
     private static Sidelessly withPoints(Sidelessly house, char letter, int many) {
         house.points(letter, many);
         return house;
@@ -303,7 +314,10 @@ public final class SentencesOfMeaningTest {
         is("1 holds 0 sets 0 1 0 0 0 pole 0 size 1", () -> countered("B"));
         is("1 holds 0 sets 0 1 0 0 0 pole 0 size 1", () -> countered("(c|B)"));
         is("1 holds 0 sets 0 1 0 1 0 pole 0 size 1", () -> countered("(D|B)"));
+        is("1 holds 0 sets 0 1 0 0 0 pole 0 size 1", () -> countered("((a*b)|(A*B))"));
+        is("2 holds 0 sets 0 0 1 0 0 pole 1 size 2", () -> countered("((a|b)|(c|C))"));
         is("2 holds 0 sets 0 0 1 0 0 pole 2 size 2", () -> countered("((c*c)|(C*C))"));
+        is("3 holds 0 sets 1 0 0 0 0 pole 2 size 3", () -> countered("((a*(a*a))|(A*(A*A)))"));
         is("2 holds 0 sets 1 0 0 0 0 pole 2 size 2", () -> countered("((a*a)|(A*A))"));
         says("formula: the formula");
         Sidelessly house = new Sidelessly();
@@ -312,6 +326,7 @@ public final class SentencesOfMeaningTest {
         is(1, () -> house.counter(1));
         says("Returns the size.");
         is(2, () -> net("((a*a)|(A*A))").counter(4));
+        is(3, () -> net("(A|(a*(a*a)))").counter(4));
         says("Throws IndexOutOfBoundsException if there is no such formula");
         is(INDEX, () -> house.counter(-1));
         is(INDEX, () -> house.counter(whole + 1));
@@ -439,6 +454,7 @@ public final class SentencesOfMeaningTest {
         is(14.0 / 6.0, house::meanAtoms);
         is(6, () -> house.atom('b', false));
         is(15.0 / 7.0, house::meanAtoms);
+        is((1 + 1 + 77) / 13.0, () -> Houses.withChain(false, 12).meanAtoms());
         says("Throws ArithmeticException if there are none");
         is(ARITHMETIC, () -> new Sidelessly().meanAtoms());
     }
@@ -488,6 +504,11 @@ public final class SentencesOfMeaningTest {
         is(true, () -> cutting(net("(a*b) (A|B) A (a*b) B", 0, 4, 1, 7, 2, 5, 3, 6), 0, 1).isTrue());
         is(true, () -> withPoints(withGone(), 'a', 3).isTrue());
         is(true, () -> withPoints(Houses.full(), 'a', 3).isTrue());
+        is(true, () -> withStar(8).isTrue());
+        is(true, () -> withStar(12).isTrue());
+        Sidelessly uncut = cutting(net("(a*b) (A|B) A (a*b) B", 0, 4, 1, 7, 2, 5, 3, 6), 0, 1);
+        is(true, uncut::isTrue);
+        is("1 5", () -> uncut.cuts() + " " + uncut.roots());
         says("Returns whether all of it holds.");
         is(true, () -> new Sidelessly().isTrue());
         is(true, () -> net("a A b").isTrue());

@@ -306,6 +306,33 @@ public final class SentencesOfTermsTest {
         is('a', () -> house.step(0));
         is("3 2", () -> house.linked(2) + " " + house.linked(3));
         is(10, house::clear);
+        Sidelessly joined = Houses.withAxioms(2);
+        is(3, () -> joined.joinPar(joined.joinTimes(0, 0, 1, 0), 1, 0));
+        is(2, () -> joined.take(3));
+        is("3 2", () -> joined.linked(0) + " " + joined.linked(1));
+        Sidelessly both = withCutsOnBothSides();
+        is(5, () -> both.take(8));
+        int[] rootsOfBoth = {1, 3, 4, 1, 0, 3, 2, 0, 1};
+        is(rootsOfBoth.length, both::roots);
+        for (int root = 0; root < rootsOfBoth.length; root++) {
+            int one = root;
+            is(rootsOfBoth[root], () -> both.rootAt(one));
+        }
+    }
+
+    /**
+     * Formulas a, A, b, B, and b*a (4). The derivation 8 has the conclusions A, B, b*a; cuts of A and a of the first
+     * derivation, of B and b of the second one, and a new one of a and A.
+     */
+    private static Sidelessly withCutsOnBothSides() {
+        Sidelessly house = new Sidelessly();
+        int a = house.atom('a', false);
+        int first = house.joinCut(house.axiom(a), 1, house.axiom(a), 0);
+        int b = house.atom('b', false);
+        int cut = house.joinCut(house.axiom(b), 1, house.axiom(b), 0);
+        int second = house.joinTimes(cut, 0, house.axiom(a), 0);
+        house.joinCut(first, 0, second, 1);
+        return house;
     }
 
     private void proofs() {
@@ -336,6 +363,8 @@ public final class SentencesOfTermsTest {
         is(false, () -> cutting(net("b B a A", 0, 1, 2, 3), 2, 3).byChoices());
         is(true, () -> cutting(net("(a*b) (A|B) A (a*b) B", 0, 4, 1, 7, 2, 5, 3, 6), 0, 1).byChoices());
         is(false, () -> cutting(net("(a*b) (A|B) A B a b", 0, 4, 1, 5, 2, 6, 3, 7), 0, 1).byChoices());
+        is(false, () -> cutting(net("(a|b) (A*B)", 0, 2, 1, 3), 0, 1).byChoices());
+        is(false, () -> net("(A*(b|a)) (A*(a|b)) (B*B)", 2, 3, 4, 0, 1, 6, 5, 7).byChoices());
         Sidelessly left = cutting(net("a A a A", 0, 1, 2, 3), 1, 2);
         is('a', () -> left.step(0));
         is(true, left::byChoices);
@@ -351,6 +380,8 @@ public final class SentencesOfTermsTest {
         is(2, () -> net("(((A|b)*c)|(a|(B*C)))", 0, 3, 1, 4, 2, 5).badChoice());
         is(4, () -> net("((a|(B*C))|((A|b)*c))", 0, 3, 1, 4, 2, 5).badChoice());
         is(4, () -> net("(a|((B*C)|((A|b)*c)))", 0, 3, 1, 4, 2, 5).badChoice());
+        is(1, () -> net("(A*(b|a)) (A*(a|b)) (B*B)", 2, 3, 4, 0, 1, 6, 5, 7).badChoice());
+        is(2, () -> net("(A*(a|b)) (A*(b|a)) (B*B)", 1, 3, 5, 0, 2, 6, 4, 7).badChoice());
         is(0, () -> net("a A b B", 0, 1, 2, 3).badChoice());
         is(0, () -> net("(a*A)", 0, 1).badChoice());
     }
@@ -379,6 +410,8 @@ public final class SentencesOfTermsTest {
         is(false, () -> net("(a*(A|b)) B", 0, 1, 2, 3).byContraction());
         is(true, () -> net("((A|a)*B) ((c|C)*b)", 0, 1, 3, 4, 2, 5).byContraction());
         is(false, () -> net("((a|b)*(A*B))", 0, 2, 1, 3).byContraction());
+        is(false, () -> cutting(net("(a|b) (A*B)", 0, 2, 1, 3), 0, 1).byContraction());
+        is(false, () -> net("(A*(b|a)) (A*(a|b)) (B*B)", 2, 3, 4, 0, 1, 6, 5, 7).byContraction());
         document.says("The net is a proof if it has a root, all leaves that are left are linked, and one point is "
                 + "left, to which all pars have become one.");
         is(false, () -> new Sidelessly().byContraction());
@@ -425,6 +458,8 @@ public final class SentencesOfTermsTest {
         is(false, () -> net("a A b", 0, 1).byTrips());
         is(true, () -> net("(a*b) (A|B)", 0, 2, 1, 3).byTrips());
         is(false, () -> net("(a|b) (A|B)", 0, 2, 1, 3).byTrips());
+        is(false, () -> net("(A*(b|a)) (A*(a|b)) (B*B)", 2, 3, 4, 0, 1, 6, 5, 7).byTrips());
+        is(false, () -> net("(A*(a|b)) (A*(b|a)) (B*B)", 1, 3, 5, 0, 2, 6, 4, 7).byTrips());
         Sidelessly left = cutting(net("a A a A", 0, 1, 2, 3), 1, 2);
         is('a', () -> left.step(0));
         is(true, left::byTrips);
@@ -620,6 +655,8 @@ public final class SentencesOfTermsTest {
         is(true, () -> isClique(net("(a*b) (A|B)", 0, 2, 1, 3), "b"));
         document.says("The meaning is a clique if each two unlike rows are near for some conclusion.");
         is(true, () -> isClique(net("a A b B", 0, 1, 2, 3), "a"));
+        is(false, () -> isClique(cutting(net("(a*A) b B", 0, 1, 2, 3), 1, 2), ""));
+        is(false, () -> isClique(cutting(net("(a*A) (b|c) (B*C)", 0, 1, 2, 4, 3, 5), 1, 2), "b"));
         Sidelessly onePoint = net("((a*A)|b) B", 0, 1, 2, 3);
         is(2, () -> onePoint.points('a', 1));
         is(true, onePoint::isClique);
@@ -712,6 +749,11 @@ public final class SentencesOfTermsTest {
         document.says("If several exceptions apply, the exception listed first is thrown.");
         is(Sentences.ARGUMENT, () -> Houses.withFormulas(60).atom('f', false));
         is(Sentences.INDEX, () -> Houses.withFormulas(60).times(-1, 60));
+        is(Sentences.ARGUMENT, () -> {
+            Sidelessly house = Houses.withChain(true, 12);
+            Houses.fillFormulas(house, 60);
+            return house.times(12, 0);
+        });
         is(Sentences.INDEX, () -> Houses.withAxioms(24).axiom(2));
         is(Sentences.UNSUPPORTED, () -> {
             Sidelessly house = Houses.withAxioms(24);
@@ -731,6 +773,20 @@ public final class SentencesOfTermsTest {
         });
         is(Sentences.UNSUPPORTED, () -> Houses.withAxioms(24).joinCut(0, 0, 1, 0));
         is(Sentences.INDEX, () -> cutting(net("a A", 0, 1), 0, 1).step(1));
+        is(Sentences.INDEX, () -> Houses.withAxioms(1).joinTimes(0, 0, 0, 2));
+        is(Sentences.INDEX, () -> Houses.withAxioms(1).joinCut(0, 0, 0, 2));
+        Sidelessly large = Houses.withLargeConclusion();
+        is(20, () -> large.joinPar(19, 0, 1));
+        is(Sentences.ARGUMENT, () -> large.joinPar(19, 2, 0));
+        is(Sentences.ARGUMENT, () -> large.joinTimes(19, 2, 0, 0));
+        is(Sentences.ARGUMENT, () -> large.joinTimes(0, 0, 19, 2));
+        Sidelessly full = Houses.withAxioms(22);
+        is(22, () -> full.joinPar(0, 0, 1));
+        is(23, () -> full.joinTimes(1, 0, 2, 0));
+        is(Sentences.NO_SUCH, () -> full.joinPar(0, 0, 1));
+        is(Sentences.NO_SUCH, () -> full.joinTimes(3, 0, 1, 0));
+        is(Sentences.NO_SUCH, () -> full.joinTimes(2, 0, 3, 0));
+        is(Sentences.STATE, () -> full.joinTimes(3, 0, 4, 0));
     }
 
     private void examples() {
